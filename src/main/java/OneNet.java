@@ -282,12 +282,12 @@ public final class OneNet {
             return NOT_AS_TOLD;
         }
         int lay = crowd.lies[s];
-        int best = lay;
-        int least = Integer.MAX_VALUE;
+        int best = NONE;
+        int least = 0;
         for (int k = 0; k < KNOTS; k++) {
             crowd.lies[s] = k;
             int then = crowd.unrest();
-            if (then < least) {
+            if (best == NONE || then < least) {
                 least = then;
                 best = k;
             }

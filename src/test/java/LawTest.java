@@ -117,6 +117,11 @@ public final class LawTest {
         fault("felt (((((1 + -1)))))" + REST, 14);
         fault("felt ((((((", 10);
         fault("felt not not not - - (1)" + REST, 21);
+        OneNet x = new OneNet();
+        for (int i = 0; i < 3; i++) {
+            DUE.is("7: behind a fault 5 may be open again", Nets.read(x, "felt ((((((1))))))" + REST), -110);
+        }
+        DUE.is("7: behind a fault 5 may be open again", Nets.read(x, "felt (((((1)))))" + REST), 1);
     }
 
     private static void forcing() {
