@@ -8,6 +8,12 @@ public final class HangTest {
         sharing();
         pulls();
         tearing();
+        allAtOnce();
+        cutTogether();
+        mostDepth();
+        everyKnotDeepest();
+        everyCordTears();
+        namesOfBears();
         DUE.end();
     }
 
@@ -74,6 +80,16 @@ public final class HangTest {
         DUE.is("14: not beside", x.pull(4, 5), -5);
         DUE.is("14: no such knot", x.pull(0, -5), -5);
         DUE.is("14: no such knot", x.pull(15, 20), -5);
+        OneNet all = new OneNet();
+        for (int a = -1; a < 21; a++) {
+            for (int b = -1; b < 21; b++) {
+                DUE.is("14: pull(" + a + ", " + b + ")", all.pull(a, b), Nets.areBeside(a, b) ? 0 : -5);
+            }
+        }
+        for (int k : new int[] {Integer.MIN_VALUE, Integer.MAX_VALUE}) {
+            DUE.is("14: pull(" + k + ", 1)", all.pull(k, 1), -5);
+            DUE.is("14: pull(1, " + k + ")", all.pull(1, k), -5);
+        }
     }
 
     private static int torn(OneNet x, String bears) {
@@ -114,5 +130,133 @@ public final class HangTest {
         DUE.is("15: three pull", pulled, 3);
         DUE.is("15: told, more, far, who are 0", torn(x, "999 * (told + more + far + who = 0)"), 0);
         DUE.isTrue("15: 0 bears nothing", torn(x, "told + more + far + who") >= 3);
+    }
+
+    private static void allAtOnce() {
+        // Knots 0 and 1 by the rounds: 10 0, 10 10, 20 10, 20 20, .., 60 50, 60 60.
+        for (int own = 0; own < 2; own++) {
+            OneNet x = Nets.bare();
+            x.cord(0, 1, 1);
+            x.sleeper(0, 100, own);
+            DUE.is("13: by what was ahead, lying at " + own, x.depth(0), 60);
+            DUE.is("13: by what was ahead, lying at " + own, x.depth(1), 60);
+        }
+    }
+
+    private static void cutTogether() {
+        // Knots 6 and 7 by the rounds: 1 0, 1 1, 2 1, and so on: 1 and 2 together by two cords is 1.
+        OneNet x = Nets.bare();
+        x.tie(8, 1);
+        x.cord(6, 7, 1);
+        x.cord(7, 8, 1);
+        x.sleeper(0, 10, 6);
+        x.sleeper(0, 10, 7);
+        DUE.is("13: the knot with one cord", x.depth(6), 2);
+        DUE.is("13: weight and depths are cut together", x.depth(7), 1);
+    }
+
+    private static void mostDepth() {
+        OneNet x = Nets.bare();
+        x.tie(2, 1);
+        x.cord(0, 1, 1);
+        x.cord(1, 2, 1);
+        Nets.weighDown(x, 0, 507);
+        x.sleeper(0, 10, 2);
+        // Round by round knot 0 is 507, 507, 760, 760, 887, 887, 950, 950, 982, 982, 998, 998.
+        DUE.is("13: 998", x.depth(0), 998);
+        DUE.is("13: half of the round ahead", x.depth(1), 499);
+        DUE.is("14: 998 and 499", x.pull(0, 1), 499);
+        DUE.is("14: 499 and 998", x.pull(1, 0), 499);
+        DUE.is("14: 499 and 0", x.pull(1, 2), 499);
+        DUE.is("15: both are above 60", x.hang(2), 2);
+        x.lie(5, 1);
+        DUE.is("13: just 999", x.depth(0), 999);
+        DUE.is("13: half of 1000", x.depth(1), 500);
+        DUE.is("14: 999 and 500", x.pull(0, 1), 499);
+        x.lie(5, 0);
+        DUE.is("13: 1000 is 999 at most", x.depth(0), 999);
+        DUE.is("13: half of 999, in each round", x.depth(1), 499);
+        DUE.is("15: nothing is deeper", x.hang(0), 999);
+        for (int k = 3; k < 20; k++) {
+            DUE.is("13: a knot without a cord", x.depth(k), 999);
+            x.tie(k, 1);
+            DUE.is("13: TIED, without a cord", x.depth(k), 0);
+        }
+        // Knots 0 and 1 alone: six times what lies there, 996, and 1002.
+        OneNet y = Nets.bare();
+        y.cord(0, 1, 1);
+        Nets.weighDown(y, 0, 166);
+        DUE.is("13: 996", y.depth(0), 996);
+        DUE.is("13: 996", y.depth(1), 996);
+        y.sleeper(0, 10, 0);
+        DUE.is("13: 1002 is 999 at most", y.depth(0), 999);
+        DUE.is("13: 1002 is 999 at most", y.depth(1), 999);
+    }
+
+    /** Each knot in its turn is the only one that is not TIED, and hangs by one cord. */
+    private static void everyKnotDeepest() {
+        for (int k = 0; k < 20; k++) {
+            OneNet x = Nets.bare();
+            for (int other = 0; other < 20; other++) {
+                x.tie(other, other == k ? 0 : 1);
+            }
+            int beside = k % 5 == 4 ? k - 1 : k + 1;
+            DUE.is("15: the only DEEPEST, without a cord", x.hang(1), k);
+            DUE.is("15: how DEEP it is, without a cord", x.hang(0), 999);
+            x.cord(k, beside, 1);
+            DUE.is("15: all alike, the first", x.hang(1), 0);
+            DUE.is("15: nothing is DEEP", x.hang(3), 0);
+            x.sleeper(0, 10, k);
+            DUE.is("13: how DEEP it is", x.depth(k), 1);
+            DUE.is("15: the only DEEPEST", x.hang(1), k);
+            DUE.is("15: how DEEP it is", x.hang(0), 1);
+            DUE.is("15: all together", x.hang(3), 1);
+            DUE.is("14: what its cord pulls", x.pull(k, beside), 1);
+        }
+        OneNet x = Nets.bare();
+        DUE.is("15: 20 times 999", x.hang(3), 19980);
+        DUE.is("15: of like ones the first", x.hang(1), 0);
+        x.tie(0, 1);
+        DUE.is("15: of like ones the first", x.hang(1), 1);
+    }
+
+    /** By each cord alone hangs a knot with a weight of 24: it bears 24, and would tear by 23. */
+    private static void everyCordTears() {
+        for (int a = 0; a < 20; a++) {
+            for (int b = a + 1; b < 20; b++) {
+                for (int low = a; Nets.areBeside(a, b) && low <= b; low += b - a) {
+                    OneNet x = Nets.bare();
+                    for (int k = 0; k < 20; k++) {
+                        x.tie(k, k == low ? 0 : 1);
+                    }
+                    x.cord(a, b, 1);
+                    x.sleeper(0, 240, low);
+                    String cord = a + " to " + b;
+                    DUE.is("15: bears what it pulls, " + cord, torn(x, "24 * (knot = " + a + ")"), 0);
+                    DUE.is("15: bears one less, " + cord, torn(x, "99 - 76 * (knot = " + a + ")"), 1);
+                }
+            }
+        }
+    }
+
+    private static void namesOfBears() {
+        OneNet x = Nets.bare();
+        x.cord(0, 1, 1);
+        x.tie(0, 1);
+        x.sleeper(3, 309, 1);
+        x.sleeper(3, 309, 0);
+        x.asks(0, 999, 20, 999, 199);
+        DUE.is("15: told is 0, whatever was asked ahead", torn(x, "999 * (told = 0)"), 0);
+        x.asks(0, 999, 20, 999, 199);
+        DUE.is("15: more is 0", torn(x, "999 * (more = 0)"), 0);
+        x.felt(0, 1);
+        DUE.is("15: far is 0", torn(x, "999 * (far = 0)"), 0);
+        x.asks(0, 999, 20, 999, 199);
+        DUE.is("15: who is 0", torn(x, "999 * (who = 0)"), 0);
+        x.asks(0, 999, 20, 999, 199);
+        DUE.is("15: weight of both", torn(x, "999 * (weight = 264)"), 0);
+        OneNet y = Nets.bare();
+        y.cord(0, 1, 1);
+        DUE.is("15: what does not pull does not tear by 0", torn(y, "0"), 0);
     }
 }

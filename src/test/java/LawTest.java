@@ -10,7 +10,11 @@ public final class LawTest {
         nesting();
         forcing();
         asking();
+        boundsOfParts();
+        leastAndMostNames();
         meaning();
+        wrapping();
+        truth();
         DUE.end();
     }
 
@@ -160,6 +164,35 @@ public final class LawTest {
         }
     }
 
+    /** What each part says when its text says one below, at, and one above its least and its most. */
+    private static void boundsOfParts() {
+        int[] most = {99, 99, 999};
+        for (int part = 0; part < 3; part++) {
+            int[] told = {-9999, -1, 0, 1, most[part] - 1, most[part], most[part] + 1, 9999};
+            for (int v : told) {
+                OneNet x = new OneNet();
+                String e = v < 0 ? "0 - " + -v : "" + v;
+                Nets.obey(x, "felt " + (part == 0 ? e : "5") + "; slope " + (part == 1 ? e : "5") + "; bears "
+                        + (part == 2 ? e : "5") + ";");
+                DUE.is("9: part " + part + " says " + v, x.asks(part, 0, 0, 0, 0), Math.max(0, Math.min(most[part], v)));
+                DUE.is("9: another part than " + part, x.asks((part + 1) % 3, 0, 0, 0, 0), 5);
+            }
+        }
+    }
+
+    private static void leastAndMostNames() {
+        String[] names = {"told", "more", "far", "weight", "knot", "who"};
+        int[] most = {99, 9, 20, 999, 19, 9};
+        for (int i = 0; i < 6; i++) {
+            OneNet x = new OneNet();
+            Nets.obey(x, "felt " + names[i] + "; slope " + names[i] + "; bears " + names[i] + ";");
+            for (int part = 0; part < 3; part++) {
+                DUE.is("9: the least " + names[i], x.asks(part, 0, 0, 0, 0), 0);
+                DUE.is("9: the most " + names[i], x.asks(part, 999, 20, 999, 199), part < 2 ? Math.min(99, most[i]) : most[i]);
+            }
+        }
+    }
+
     private static void says(String e, int want) {
         OneNet x = new OneNet();
         Nets.obey(x, "felt 0; slope 0; bears " + e + ";");
@@ -216,5 +249,38 @@ public final class LawTest {
         for (int part = 0; part < 3; part++) {
             DUE.is("9: 0 at least", x.asks(part, 0, 0, 0, 0), 0);
         }
+    }
+
+    /** An E is an int: 4096 * 4096 * 128 is the least of all, one less the greatest, 4096 * 4096 * 256 is 0. */
+    private static void wrapping() {
+        says("4096*4096*127 < 0", 0);
+        says("4096*4096*128 < 0", 1);
+        says("4096*4096*128", 0);
+        says("4096*4096*128 - 1", 999);
+        says("0 < 4096*4096*128 - 1", 1);
+        says("4096*4096*128 - 1 + 1 < 0", 1);
+        says("- (4096*4096*128) < 0", 1);
+        says("- (4096*4096*128) = 4096*4096*128", 1);
+        says("4096*4096*128 < 4096*4096*128 - 1", 1);
+        says("4096*4096*128 - 1 < 4096*4096*128", 0);
+        says("4096*4096*128 - 1 < -1", 0);
+        says("4096*4096*256 = 0", 1);
+        says("4096*4096*256 + 7", 7);
+        says("4096*4096*256 or 0", 0);
+        says("4096*4096*128 or 0", 1);
+    }
+
+    /** What is not 0 is true. */
+    private static void truth() {
+        says("-1 and 1", 1);
+        says("1 and -1", 1);
+        says("-1 and -1", 1);
+        says("-1 and 0", 0);
+        says("-1 or 0", 1);
+        says("0 or -1", 1);
+        says("not -1", 0);
+        says("5 and 7", 1);
+        says("5 or 7", 1);
+        says("(5 < 7) + (7 = 7) + (not 0)", 3);
     }
 }

@@ -4,9 +4,15 @@ public final class LotTest {
 
     public static void main(String[] args) {
         drawing();
+        seeds();
         reckoning();
+        passing();
+        lowestTerms();
         images();
         oldOnes();
+        imageOfNobody();
+        imageOfSix();
+        allAgain();
         DUE.end();
     }
 
@@ -122,5 +128,141 @@ public final class LotTest {
         x.lie(0, 8);
         x.back();
         DUE.is("36: the last image", x.told(0, 0), 7);
+    }
+
+    /** Of seeds the least, the most, and those with the least and the greatest first lot; for none to six sleepers. */
+    private static void seeds() {
+        int[] seeds = {0, 44487, 44488, 88976, 99998, 99999};
+        // 44487: 2147480248, 1983410518, 2093163824, 5356954, 887488894, 1972611918; 88976: 41473, 2001943183,
+        // 1182755240, 1925434545, 1706163182, 57612225; 99999: 532132706, 525949559, 559487655, 274249833, ..
+        int[] turning = {6, 32, 2, 8 + 32, 8, 4 + 8 + 32};
+        for (int size = 0; size <= 6; size++) {
+            OneNet x = heap(size);
+            for (int i = 0; i < seeds.length; i++) {
+                int own = turning[i] & (1 << size) - 1;
+                String call = "drawn(" + seeds[i] + ", ";
+                DUE.is("33: " + call + "0) of " + size, x.drawn(seeds[i], 0), own);
+                DUE.is("33: " + call + "1) of " + size, x.drawn(seeds[i], 1), own == 0 ? 0 : (1 << size) - 1 - own);
+            }
+        }
+    }
+
+    /** Three of whom only number 0 wakes anybody: by seed 100000 it turns, by 99998, 99999 and 0 it does not. */
+    private static void passing() {
+        OneNet x = new OneNet();
+        for (int s = 0; s < 3; s++) {
+            x.sleeper(0, 10 + s, 7);
+        }
+        Nets.obeyFelt(x, "10 * (more = 0)");
+        ratio(x, 99999, 1, 1, 1);
+        ratio(x, 99998, 2, 1, 1);
+        ratio(x, 99999, 2, 1, 2);
+        ratio(x, 99998, 3, 2, 3);
+        DUE.is("33: no further", x.drawn(100000, 0), OneNet.BAD);
+        DUE.is("34: no further", x.odds(100000, 1, 0), OneNet.NO);
+    }
+
+    private static void lowestTerms() {
+        OneNet calm = heap(6);
+        Nets.obeyFelt(calm, "0");
+        OneNet one = heap(1);
+        for (int n = 1; n <= 30; n++) {
+            ratio(calm, 99999, n, 1, 1);
+            ratio(one, 0, n, 1, 1);
+            ratio(new OneNet(), 0, n, 1, 1);
+            OneNet wild = heap(6);
+            int quiet = 0;
+            for (int seed = 0; seed < n; seed++) {
+                quiet += wild.drawn(seed, 1) == 0 ? 1 : 0;
+            }
+            long above = wild.odds(0, n, 0);
+            long below = wild.odds(0, n, 1);
+            DUE.is("34: in " + n + " seeds", above * n, quiet * below);
+            int common = 1;
+            for (int by = 2; by <= below; by++) {
+                common = above % by == 0 && below % by == 0 ? by : common;
+            }
+            DUE.is("34: in lowest terms, " + above + " of " + below, common, 1);
+        }
+        DUE.is("34: none such is told by a long", calm.odds(0, 31, 0), -(1L << 62));
+    }
+
+    private static void imageOfNobody() {
+        OneNet x = new OneNet();
+        DUE.is("35: nobody", x.image(), 0);
+        for (int s = 0; s < 6; s++) {
+            x.sleeper(s, 50, s);
+        }
+        DUE.is("36: nobody is left", x.back(), 0);
+        DUE.is("36: nobody is left", x.count(0), 0);
+        DUE.is("36: not even the first", x.lie(0, 0), -5);
+        DUE.is("36: there is room for six again", x.sleeper(5, 62, 9), 0);
+        DUE.is("36: who is another one", x.told(0, 1), 5);
+        DUE.is("36: at once again", x.back(), 0);
+    }
+
+    private static void imageOfSix() {
+        OneNet x = heap(6);
+        for (int k = 0; k < 20; k++) {
+            x.cord(k, k + 1, 0);
+            x.cord(k, k + 5, 0);
+            x.tie(k, 1);
+        }
+        DUE.is("35: six", x.image(), 6);
+        for (int k = 0; k < 20; k++) {
+            x.cord(k, k + 1, 1);
+            x.cord(k, k + 5, 1);
+            x.tie(k, 0);
+        }
+        for (int s = 0; s < 6; s++) {
+            x.lie(s, 19 - s);
+        }
+        DUE.is("36: six", x.back(), 6);
+        DUE.is("36: no CORD", x.count(1), 0);
+        DUE.is("36: all are TIED", x.count(2), (1 << 20) - 1);
+        for (int s = 0; s < 6; s++) {
+            DUE.is("36: where one lay", x.told(s, 0), 7);
+        }
+        x.cord(0, 1, 1);
+        x.tie(9, 0);
+        x.lie(5, 0);
+        x.force(0);
+        DUE.is("36: the image is still that", x.back(), 6);
+        DUE.is("36: no CORD", x.count(1), 0);
+        DUE.is("36: all are TIED", x.count(2), (1 << 20) - 1);
+        DUE.is("36: where the last one lay", x.told(5, 0), 7);
+        DUE.is("36: THE LAW", x.count(4), 1);
+        x.force(0);
+        DUE.is("35: another image comes for it", x.image(), 6);
+        x.force(1);
+        x.back();
+        DUE.is("35: THE LAW of the last image", x.count(4), 0);
+        DUE.is("36: a TEXT that came since is there", x.count(3), 2);
+    }
+
+    /** Behind back() all looks as it did when the image was kept. */
+    private static void allAgain() {
+        OneNet x = Calls.made(new OneNet(), States.some());
+        x.image();
+        OneNet y = Calls.made(new OneNet(), States.some());
+        y.image();
+        y.sleeper(3, 309, 19);
+        y.sleeper(4, 10, 0);
+        y.lie(0, 19);
+        y.lie(2, 0);
+        y.cord(0, 1, 0);
+        y.cord(18, 19, 0);
+        y.cord(7, 8, 1);
+        y.tie(0, 0);
+        y.tie(19, 0);
+        y.tie(4, 1);
+        y.force(2);
+        y.roll(3);
+        y.back();
+        DUE.isTrue("36: all as in THE IMAGE", Look.at(x).equals(Look.at(y)));
+        OneNet z = new OneNet();
+        DUE.is("36: there is none", z.back(), OneNet.STATE);
+        z.image();
+        DUE.is("36: now there is one", z.back(), 0);
     }
 }

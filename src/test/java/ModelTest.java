@@ -6,7 +6,8 @@ import java.util.Random;
 /** All promises: random runs of calls, held against the Model. */
 public final class ModelTest {
     private static final int RUNS = 400;
-    private static final int CALLS = 150;
+    /** What an object is used for. */
+    private static final int CALLS = 512;
     private static final int[] FARTHEST = {Integer.MIN_VALUE, Integer.MIN_VALUE + 1, -1000, -100, -16, -1, 20, 40, 41,
         100, 255, 256, 1000, 65535, 65536, 100000, Integer.MAX_VALUE - 2, Integer.MAX_VALUE - 1, Integer.MAX_VALUE};
     private static final Due DUE = new Due("ModelTest");
@@ -14,6 +15,7 @@ public final class ModelTest {
     private final Random random;
     private final OneNet net = new OneNet();
     private final Model model = new Model();
+    private int made = 0;
 
     /** One number of so many is anything. */
     private final int wild;
@@ -50,7 +52,7 @@ public final class ModelTest {
         for (int s = 0; s < size; s++) {
             both("sleeper", random.nextInt(6), 10 + random.nextInt(300), random.nextInt(20), run);
         }
-        for (int call = 0; call < CALLS; call++) {
+        while (made < CALLS) {
             if (random.nextInt(12) == 0) {
                 feedText(run);
             }
@@ -75,6 +77,10 @@ public final class ModelTest {
     }
 
     private void hold(Method[] pair, Object[] arguments, int run) throws ReflectiveOperationException {
+        if (made >= CALLS) {
+            return;
+        }
+        made++;
         long got = ((Number) pair[0].invoke(net, arguments)).longValue();
         long want = ((Number) pair[1].invoke(model, arguments)).longValue();
         DUE.is("run " + run + ": " + pair[0].getName() + java.util.Arrays.toString(arguments), got, want);

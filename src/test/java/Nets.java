@@ -3,13 +3,9 @@ final class Nets {
     private Nets() {
     }
 
-    /** Puts a text on the tape, byte by byte; the last answer of feed(). */
-    static int feed(OneNet x, String text) {
-        int last = 0;
-        for (int i = 0; i < text.length(); i++) {
-            last = x.feed(1, text.charAt(i), 0, 0, 0, 0);
-        }
-        return last;
+    /** Puts a text on the tape. */
+    static void feed(OneNet x, String text) {
+        Calls.made(x, Calls.feeding(text));
     }
 
     /** Reads a text; the answer of text(). */
@@ -24,6 +20,11 @@ final class Nets {
         if (t < 0 || x.force(t) < 0) {
             throw new IllegalStateException("no text: " + text + " (" + t + ")");
         }
+    }
+
+    /** Makes a text that says just how strong a turn is felt the law. */
+    static void obeyFelt(OneNet x, String felt) {
+        obey(x, "felt " + felt + "; slope 0; bears 0;");
     }
 
     /** A net without any cord, in which nothing is tied. */
@@ -50,5 +51,28 @@ final class Nets {
             return false;
         }
         return Math.abs(a / 5 - b / 5) + Math.abs(a % 5 - b % 5) == 1;
+    }
+
+    /** A net with the cords 0 - 1 - 2 - 3 - 4 alone, and sleepers at knots; who lies no farther than 1 off wakes. */
+    static OneNet row(int... knots) {
+        OneNet x = bare();
+        for (int k = 0; k < 4; k++) {
+            x.cord(k, k + 1, 1);
+        }
+        for (int knot : knots) {
+            x.sleeper(0, 50, knot);
+        }
+        obeyFelt(x, "(far < 2) * 10");
+        return x;
+    }
+
+    /** Lets in so few as can be who together WEIGH so much, at a knot: each 132, or 66, or less. */
+    static void weighDown(OneNet x, int knot, int weight) {
+        for (int left = weight; left > 0; ) {
+            int own = left >= 132 ? 132 : Math.min(66, left);
+            int more = own == 132 ? 9 : Math.max(0, (own - 27) / 4);
+            x.sleeper(own == 132 ? 3 : 1, own == 132 ? 309 : 10 * (own - 4 * more) + more, knot);
+            left -= own;
+        }
     }
 }

@@ -5,7 +5,9 @@ public final class SleeperTest {
     public static void main(String[] args) {
         comers();
         kinds();
+        leastAndMost();
         lying();
+        six();
         DUE.end();
     }
 
@@ -54,6 +56,50 @@ public final class SleeperTest {
         DUE.is("12: no such one", x.told(-1, 9), -5);
         DUE.is("12: what 6", x.told(0, 6), -7);
         DUE.is("12: what -1", x.told(0, -1), -7);
+    }
+
+    /** By KIND, with TOLD 1 and MORE 0, and with TOLD 30 and MORE 9: how much one WEIGHS, at what one WAKES. */
+    private static void leastAndMost() {
+        int[][] least = {{1, 10}, {1, 10}, {1, 10}, {2, 10}, {1, 15}, {1, 5}};
+        int[][] most = {{30, 10}, {66, 10}, {30, 1}, {132, 10}, {30, 6}, {30, 5}};
+        for (int kind = 0; kind < 6; kind++) {
+            OneNet x = new OneNet();
+            DUE.is("10: the least of KIND " + kind, x.sleeper(kind, 10, 0), 0);
+            DUE.is("10: the most of KIND " + kind, x.sleeper(kind, 309, 19), 1);
+            int[][] want = {{0, kind, 1, 0, least[kind][0], least[kind][1]}, {19, kind, 30, 9, most[kind][0], most[kind][1]}};
+            for (int s = 0; s < 2; s++) {
+                for (int what = 0; what < 6; what++) {
+                    DUE.is("12: KIND " + kind + ", told(" + s + ", " + what + ")", x.told(s, what), want[s][what]);
+                }
+            }
+        }
+        OneNet x = new OneNet();
+        x.sleeper(2, 18, 0);
+        x.sleeper(2, 19, 0);
+        x.sleeper(0, 20, 0);
+        DUE.is("12: a THIN with MORE 8 WAKES at", x.told(0, 5), 2);
+        DUE.is("12: a THIN with MORE 9, 1 at least", x.told(1, 5), 1);
+        DUE.is("12: 19 is TOLD 1", x.told(1, 2), 1);
+        DUE.is("12: 20 is TOLD 2", x.told(2, 2), 2);
+        DUE.is("12: 20 is MORE 0", x.told(2, 3), 0);
+    }
+
+    private static void six() {
+        OneNet x = new OneNet();
+        for (int s = 0; s < 6; s++) {
+            DUE.is("10: number " + s, x.sleeper(0, 10 + s, s), s);
+            DUE.is("5: so many", x.count(0), s + 1);
+        }
+        DUE.is("10: a seventh", x.sleeper(5, 309, 19), OneNet.FULL);
+        for (int s = 0; s < 6; s++) {
+            DUE.is("10: number " + s + " stays where it was", x.told(s, 0), s);
+            DUE.is("10: number " + s + " stays what it was", x.told(s, 3), s);
+            DUE.is("11: to the last knot", x.lie(s, 19), s);
+            DUE.is("11: to the first knot", x.lie(s, 0), 19);
+            DUE.is("11: where it lies already", x.lie(s, 0), 0);
+        }
+        DUE.is("11: no seventh", x.lie(6, 0), -5);
+        DUE.is("12: no seventh", x.told(6, 0), -5);
     }
 
     private static void lying() {

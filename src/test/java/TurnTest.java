@@ -1,7 +1,6 @@
-/** Promises 18 to 24: felt, wakes, night, woken, place, swap, rest. */
+/** Promises 18 to 21: felt, wakes, night, woken. */
 public final class TurnTest {
     private static final Due DUE = new Due("TurnTest");
-    private static final String NEAR = "felt (far < 2) * 10; slope 0; bears 0;";
 
     public static void main(String[] args) {
         kinds();
@@ -9,27 +8,13 @@ public final class TurnTest {
         ways();
         waking();
         spreading();
-        placing();
-        swapping();
-        resting();
+        leastAndMostTurns();
+        noWay();
+        justEnough();
+        roundsOfFew();
+        roundsOfSix();
+        allOrNobody();
         DUE.end();
-    }
-
-    /** A net with the cords 0 - 1 - 2 - 3 - 4 alone, and sleepers at knots; who lies no farther than 1 off wakes. */
-    private static OneNet row(int... knots) {
-        OneNet x = Nets.bare();
-        for (int k = 0; k < 4; k++) {
-            x.cord(k, k + 1, 1);
-        }
-        for (int knot : knots) {
-            x.sleeper(0, 50, knot);
-        }
-        Nets.obey(x, NEAR);
-        return x;
-    }
-
-    private static void law(OneNet x, String felt) {
-        Nets.obey(x, "felt " + felt + "; slope 0; bears 0;");
     }
 
     private static void kinds() {
@@ -38,15 +23,15 @@ public final class TurnTest {
             OneNet x = new OneNet();
             x.sleeper(0, 50, 7);
             x.sleeper(kind, 53, 8);
-            law(x, "10");
+            Nets.obeyFelt(x, "10");
             DUE.is("18: a turn of kind " + kind, x.felt(0, 1), strong[kind]);
         }
         OneNet x = new OneNet();
         x.sleeper(0, 50, 7);
         x.sleeper(5, 59, 8);
-        law(x, "10");
+        Nets.obeyFelt(x, "10");
         DUE.is("18: 0 at least", x.felt(0, 1), 0);
-        law(x, "500");
+        Nets.obeyFelt(x, "500");
         DUE.is("18: 99 at most, twice MORE less", x.felt(0, 1), 81);
     }
 
@@ -63,7 +48,7 @@ public final class TurnTest {
                 x.sleeper(1, 83, 12);
                 x.sleeper(0, 56, 8);
             }
-            law(x, names[i]);
+            Nets.obeyFelt(x, names[i]);
             DUE.is("18: 0 feels 1, felt " + names[i], x.felt(0, 1), heard[i]);
             DUE.is("18: 1 feels 0, felt " + names[i], x.felt(1, 0), other[i]);
         }
@@ -79,7 +64,7 @@ public final class TurnTest {
         x.sleeper(0, 50, 0);
         x.sleeper(0, 50, 1);
         x.sleeper(0, 50, 0);
-        law(x, "50 + far");
+        Nets.obeyFelt(x, "50 + far");
         DUE.is("18: no way", x.felt(0, 1), 0);
         DUE.is("18: the same knot, without a cord", x.felt(0, 2), 50);
         x.cord(0, 5, 1);
@@ -102,7 +87,7 @@ public final class TurnTest {
         y.cord(14, 19, 1);
         y.sleeper(0, 50, 0);
         y.sleeper(0, 50, 15);
-        law(y, "far");
+        Nets.obeyFelt(y, "far");
         DUE.is("18: 19 cords", y.felt(0, 1), 19);
     }
 
@@ -112,18 +97,18 @@ public final class TurnTest {
         x.sleeper(0, 50, 8);
         x.sleeper(2, 53, 8);
         x.sleeper(5, 50, 9);
-        law(x, "10");
+        Nets.obeyFelt(x, "10");
         DUE.is("19: just what it needs", x.wakes(0, 0), 2 + 4 + 8);
         DUE.is("21: by three others", x.woken(0), 3);
         DUE.is("20: night()", x.night(), 12);
-        law(x, "9");
+        Nets.obeyFelt(x, "9");
         DUE.is("19: one less than a SLEEPER needs", x.wakes(0, 0), 4 + 8);
         DUE.is("21: woken(0)", x.woken(0), 0);
         DUE.is("21: woken(3)", x.woken(3), 3);
         DUE.is("20: night()", x.night(), 6);
-        law(x, "6");
+        Nets.obeyFelt(x, "6");
         DUE.is("19: a THIN with MORE 3 needs 7", x.wakes(0, 0), 8);
-        law(x, "4");
+        Nets.obeyFelt(x, "4");
         DUE.is("19: nobody", x.wakes(0, 0), 0);
         DUE.is("19: nobody, in no round", x.wakes(0, 2), 0);
         DUE.is("20: night()", x.night(), 0);
@@ -137,7 +122,7 @@ public final class TurnTest {
     }
 
     private static void spreading() {
-        OneNet x = row(0, 1, 2, 3);
+        OneNet x = Nets.row(0, 1, 2, 3);
         int[] first = {2, 5, 10, 4};
         int[] all = {14, 13, 11, 7};
         int[] rounds = {3, 2, 2, 3};
@@ -149,74 +134,116 @@ public final class TurnTest {
             DUE.is("21: woken(" + s + ")", x.woken(s), times[s]);
         }
         DUE.is("20: night()", x.night(), 6);
-        OneNet six = row(0, 1, 2, 3, 4, 4);
+        OneNet six = Nets.row(0, 1, 2, 3, 4, 4);
         DUE.is("19: five rounds at most", six.wakes(0, 2), 4);
         DUE.is("19: all but that one", six.wakes(0, 1), 62);
     }
 
-    private static void placing() {
-        OneNet x = row(0, 1, 2);
-        DUE.is("22: place(1, 0)", x.place(1, 0), 4);
-        DUE.is("22: place(1, 1)", x.place(1, 1), 0);
-        DUE.is("22: place(0, 0)", x.place(0, 0), 4);
-        DUE.is("22: place(0, 1)", x.place(0, 1), 2);
-        DUE.is("22: nothing is changed", x.told(0, 0), 0);
-        x = row(0, 1, 2);
-        x.lie(1, 19);
-        DUE.is("22: of like ones the first, ahead of where one lies", x.place(1, 0), 4);
-        DUE.is("22: one alone", row(7).place(0, 0), 0);
-        DUE.is("22: no such one", x.place(3, 9), -5);
-        DUE.is("22: no such one", x.place(-1, 0), -5);
-        DUE.is("22: what 2", x.place(0, 2), -7);
-        DUE.is("22: what -1", x.place(0, -1), -7);
+    /** By what felt says, and by KIND of who turns, with MORE 9: how strongly that is felt. */
+    private static void leastAndMostTurns() {
+        int[] says = {0, 17, 18, 19, 98, 99, 100};
+        int[][] strong = {{0, 0, 0, 9, 0, 0}, {17, 17, 17, 26, 34, 0}, {18, 18, 18, 27, 36, 0}, {19, 19, 19, 28, 38, 1},
+            {98, 98, 98, 107, 196, 80}, {99, 99, 99, 108, 198, 81}, {99, 99, 99, 108, 198, 81}};
+        for (int i = 0; i < says.length; i++) {
+            OneNet x = new OneNet();
+            Nets.obeyFelt(x, "" + says[i]);
+            for (int kind = 0; kind < 6; kind++) {
+                x.sleeper(kind, 19, kind);
+            }
+            for (int kind = 0; kind < 6; kind++) {
+                DUE.is("18: KIND " + kind + " turns, felt " + says[i], x.felt((kind + 1) % 6, kind), strong[i][kind]);
+            }
+        }
+        OneNet x = new OneNet();
+        Nets.obeyFelt(x, "0 - 1");
+        x.sleeper(0, 10, 0);
+        x.sleeper(3, 10, 0);
+        DUE.is("18: felt says 0 at least, MORE 0", x.felt(0, 1), 0);
     }
 
-    private static void swapping() {
-        // The THIN one wakes at 1; at knot 0 nothing is felt.
-        OneNet x = new OneNet();
-        x.sleeper(0, 50, 0);
-        x.sleeper(2, 59, 1);
-        law(x, "5 * (0 < knot)");
-        DUE.is("23: as now", x.night(), 1);
-        DUE.is("23: swap(0)", x.swap(0), 1);
-        DUE.is("23: swap(1)", x.swap(1), 0);
-        DUE.is("23: nothing is changed", x.told(1, 0), 1);
-        x.lie(1, 0);
-        x.lie(0, 1);
-        DUE.is("23: none is less", x.swap(0), -1);
-        DUE.is("23: as now", x.swap(1), 0);
-        OneNet y = new OneNet();
-        y.sleeper(0, 50, 2);
-        y.sleeper(2, 59, 1);
-        y.sleeper(0, 50, 0);
-        law(y, "5 * (0 < knot)");
-        DUE.is("23: the pair 1, 2", y.swap(0), 12);
-        DUE.is("23: then", y.swap(1), 0);
-        OneNet z = new OneNet();
-        z.sleeper(2, 59, 1);
-        z.sleeper(0, 50, 0);
-        z.sleeper(0, 50, 0);
-        law(z, "5 * (0 < knot)");
-        DUE.is("23: of like ones the first", z.swap(0), 1);
-        DUE.is("23: nobody there", new OneNet().swap(0), -1);
-        DUE.is("23: swap(2)", x.swap(2), OneNet.BAD);
-        DUE.is("23: swap(-1)", x.swap(-1), OneNet.BAD);
+    /** Where there is no way, nothing is felt, of whatever KIND one is; at the same knot there is one, of 0 cords. */
+    private static void noWay() {
+        for (int kind = 0; kind < 6; kind++) {
+            OneNet x = Nets.bare();
+            Nets.obeyFelt(x, "99 - far");
+            x.sleeper(0, 10, 0);
+            x.sleeper(kind, 19, 1);
+            DUE.is("18: no way from KIND " + kind, x.felt(0, 1), 0);
+            DUE.is("19: no way from KIND " + kind, x.wakes(1, 0), 0);
+            x.cord(0, 1, 1);
+            DUE.is("18: far 1, from KIND " + kind, x.felt(0, 1), new int[] {98, 98, 98, 107, 196, 80}[kind]);
+            x.cord(0, 1, 0);
+            x.lie(1, 0);
+            DUE.is("18: far 0, from KIND " + kind, x.felt(0, 1), new int[] {99, 99, 99, 108, 198, 81}[kind]);
+        }
     }
 
-    private static void resting() {
-        DUE.is("24: nobody there", new OneNet().rest(), 1);
-        DUE.is("24: one would wake less elsewhere", row(0, 1).rest(), 0);
-        DUE.is("24: nobody wakes", row(0, 2, 4).rest(), 1);
-        OneNet x = new OneNet();
-        x.sleeper(0, 50, 0);
-        x.sleeper(0, 50, 1);
-        law(x, "99");
-        DUE.is("24: all wake everywhere", x.rest(), 1);
-        law(x, "10 * (0 < knot)");
-        DUE.is("24: the better knot is taken", x.rest(), 1);
-        x.lie(0, 2);
-        DUE.is("24: the better knot is free", x.rest(), 0);
-        DUE.is("24: nothing is changed", x.told(0, 0), 2);
-        DUE.is("24: nothing is changed", x.told(1, 0), 1);
+    /** By KIND, with MORE 0 and with MORE 9: one WAKES by just as much as one must feel, and not by one less. */
+    private static void justEnough() {
+        int[][] wakesAt = {{10, 10, 10, 10, 15, 5}, {10, 10, 1, 10, 6, 5}};
+        for (int kind = 0; kind < 6; kind++) {
+            for (int big = 0; big < 2; big++) {
+                OneNet x = new OneNet();
+                x.sleeper(0, 10, 0);
+                x.sleeper(kind, 10 + 9 * big, 0);
+                int at = wakesAt[big][kind];
+                Nets.obeyFelt(x, "" + at);
+                DUE.is("19: KIND " + kind + " WAKES by " + at, x.wakes(0, 0), 2);
+                DUE.is("21: KIND " + kind + " WAKES by " + at, x.woken(1), 1);
+                Nets.obeyFelt(x, "" + (at - 1));
+                DUE.is("19: KIND " + kind + " does not by " + (at - 1), x.wakes(0, 0), 0);
+                DUE.is("21: KIND " + kind + " does not by " + (at - 1), x.woken(1), 0);
+            }
+        }
+    }
+
+    private static void roundsOfFew() {
+        OneNet one = Nets.row(2);
+        for (int what = 0; what < 3; what++) {
+            DUE.is("19: alone, wakes(0, " + what + ")", one.wakes(0, what), 0);
+        }
+        DUE.is("21: alone", one.woken(0), 0);
+        DUE.is("20: alone", one.night(), 0);
+        OneNet two = Nets.row(2, 3);
+        DUE.is("19: who turned first is none of who WAKE", two.wakes(0, 1), 2);
+        DUE.is("19: nor makes a round more", two.wakes(0, 2), 1);
+        DUE.is("19: nor makes a round more", two.wakes(1, 2), 1);
+    }
+
+    /** Six in a line, each of whom wakes those beside. */
+    private static void roundsOfSix() {
+        OneNet x = Nets.row(0, 1, 2, 3, 4, 9);
+        x.cord(4, 9, 1);
+        int[] rounds = {5, 4, 3, 3, 4, 5};
+        int[] first = {2, 5, 10, 20, 40, 16};
+        for (int s = 0; s < 6; s++) {
+            DUE.is("19: wakes(" + s + ", 0)", x.wakes(s, 0), first[s]);
+            DUE.is("19: all but " + s, x.wakes(s, 1), 63 - (1 << s));
+            DUE.is("19: behind so many rounds, from " + s, x.wakes(s, 2), rounds[s]);
+        }
+        DUE.is("20: night()", x.night(), 10);
+        x.lie(3, 19);
+        DUE.is("19: it ends where nobody lies", x.wakes(0, 1), 6);
+        DUE.is("19: behind two rounds", x.wakes(0, 2), 2);
+        DUE.is("19: who lies apart", x.wakes(3, 2), 0);
+    }
+
+    private static void allOrNobody() {
+        OneNet x = Nets.row(3, 3, 3, 3, 3, 3);
+        DUE.is("20: the most UNREST", x.night(), 30);
+        for (int s = 0; s < 6; s++) {
+            DUE.is("21: by all others' turns", x.woken(s), 5);
+            DUE.is("19: all others at once", x.wakes(s, 0), 63 - (1 << s));
+            DUE.is("19: behind one round", x.wakes(s, 2), 1);
+        }
+        Nets.obeyFelt(x, "9");
+        DUE.is("20: the least UNREST", x.night(), 0);
+        for (int s = 0; s < 6; s++) {
+            DUE.is("21: by no turn", x.woken(s), 0);
+        }
+        DUE.is("21: no seventh", x.woken(6), -5);
+        DUE.is("19: no seventh", x.wakes(6, 0), -5);
+        DUE.is("18: no seventh", x.felt(0, 6), -5);
+        DUE.is("18: no seventh", x.felt(6, 0), -5);
     }
 }

@@ -4,7 +4,9 @@ public final class TurnedTest {
 
     public static void main(String[] args) {
         sets();
+        allSets();
         texts();
+        allTexts();
         DUE.end();
     }
 
@@ -59,5 +61,51 @@ public final class TurnedTest {
         DUE.is("29: no such one", x.laws(-1, 0), -5);
         DUE.is("29: no such SLEEPERS", x.laws(0, 8), -7);
         DUE.is("29: no such SLEEPERS", x.laws(0, -1), -7);
+    }
+
+    /** Six, of whom each wakes all others: by one's turn all others WAKE, by more turns all who did not turn. */
+    private static void allSets() {
+        OneNet x = Nets.row(3, 3, 3, 3, 3, 3);
+        for (int woke = 0; woke < 64; woke++) {
+            int turned = 63 - woke;
+            boolean isAll = woke == 63;
+            int many = isAll ? 0 : woke == 0 ? 2 : 1;
+            int least = isAll ? -1 : woke == 0 ? 0 : turned;
+            DUE.is("28: turned(" + woke + ", 0)", x.turned(woke, 0), many);
+            DUE.is("28: turned(" + woke + ", 1)", x.turned(woke, 1), least);
+        }
+        DUE.is("28: no seventh", x.turned(64, 0), -5);
+        Nets.obeyFelt(x, "0");
+        DUE.is("28: by any set nobody WAKES", x.turned(0, 0), 64);
+        DUE.is("28: the least is none", x.turned(0, 1), 0);
+        DUE.is("28: all at once WAKE by none", x.turned(63, 0), 0);
+        OneNet one = Nets.row(3);
+        DUE.is("28: one alone, who turned or not", one.turned(0, 0), 2);
+        DUE.is("28: one alone does not WAKE", one.turned(1, 0), 0);
+        DUE.is("28: one alone does not WAKE", one.turned(1, 1), -1);
+        DUE.is("28: no second", one.turned(2, 0), -5);
+    }
+
+    private static void allTexts() {
+        OneNet x = new OneNet();
+        x.sleeper(0, 10, 3);
+        x.sleeper(0, 10, 3);
+        DUE.is("29: TEXT 0 alone, by which nobody WAKES", x.laws(0, 0), 1);
+        DUE.is("29: TEXT 0 alone", x.laws(0, 2), 0);
+        for (int t = 1; t < 6; t++) {
+            DUE.is("29: none but those that are", x.laws(0, 0), 1);
+            Nets.read(x, "felt 10;slope 0;bears 0;");
+            DUE.is("29: so many", x.laws(0, 2), (2 << t) - 2);
+        }
+        DUE.is("29: the last one, too", x.laws(1, 1), 62);
+        DUE.is("29: by none that very one", x.laws(1, 2), 0);
+        DUE.is("29: by none that very one, too", x.laws(1, 3), 0);
+        DUE.is("29: no third", x.laws(2, 0), -5);
+        DUE.is("29: no third", x.laws(0, 4), -7);
+        DUE.is("29: THE LAW is TEXT 0 still", x.count(4), 0);
+        DUE.is("29: it says what it said", x.felt(0, 1), 8);
+        x.lie(0, 4);
+        x.sleeper(0, 19, 3);
+        DUE.is("29: by all", x.laws(2, 3), 63);
     }
 }
