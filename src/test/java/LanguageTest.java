@@ -13,7 +13,51 @@ import java.util.regex.Pattern;
 /** The document's face, and what can be seen of LANGUAGE.md's rules in the source and in the class. */
 public final class LanguageTest {
     private static final Due DUE = new Due("LanguageTest");
-    private static final Pattern FACE = Pattern.compile("^    public (?!static)(\\w+ )?(\\w+)\\((.*)\\);$");
+    /** It lies beside the project, where the project is worked on; the tests must run without it, too. */
+    private static final Path DOC = Path.of("../shared/DOC.md");
+    private static final String FACE = """
+            OneNet()
+            int cord(int a, int b, int is)
+            int corded(int a, int b)
+            int tie(int k, int is)
+            int count(int what)
+            int feed(int n, int a, int b, int c, int d, int e)
+            int text()
+            int force(int t)
+            int asks(int part, int toldMore, int far, int weight, int knotWho)
+            int sleeper(int kind, int toldMore, int knot)
+            int lie(int s, int knot)
+            int told(int s, int what)
+            int depth(int k)
+            int pull(int a, int b)
+            int hang(int what)
+            int roll(int n)
+            int rolled(int s, int n)
+            int felt(int s, int by)
+            int wakes(int by, int what)
+            int night()
+            int woken(int s)
+            int place(int s, int what)
+            int swap(int what)
+            int rest()
+            int order(int what)
+            int mend(int what)
+            int rim(int what)
+            int turned(int woke, int what)
+            int laws(int by, int woke)
+            int judge(int s)
+            int where(int s, int one)
+            int film(int s)
+            int drawn(int seed, int what)
+            long odds(int seed, int seeds, int part)
+            int image()
+            int back()
+            int sheet(int s, int sort, int n)
+            int cell(int s, int i, int v)
+            int copy(int s, int i, int other, int j, int n)
+            int sleepersBy(int s, int sort, int at, int n)
+            int taken(int i, int kind)
+            """;
 
     public static void main(String[] args) throws IOException {
         face();
@@ -30,12 +74,11 @@ public final class LanguageTest {
 
     private static void face() throws IOException {
         Set<String> due = new TreeSet<>();
-        for (String line : Files.readAllLines(Path.of("../shared/DOC.md"))) {
-            Matcher found = FACE.matcher(line);
-            if (found.matches()) {
-                String types = found.group(3).replaceAll("(\\w+) \\w+", "$1");
-                due.add((found.group(1) == null ? "" : found.group(1)) + found.group(2) + "(" + types + ")");
-            }
+        for (String head : FACE.split("\n")) {
+            due.add(withTypesAlone(head));
+        }
+        if (Files.exists(DOC)) {
+            same("the document's face", headsOf(Files.readString(DOC)), new TreeSet<>(Set.of(FACE.split("\n"))));
         }
         Set<String> has = new TreeSet<>();
         for (Constructor<?> made : OneNet.class.getDeclaredConstructors()) {
@@ -46,13 +89,26 @@ public final class LanguageTest {
                 has.add(method.getReturnType() + " " + method.getName() + "(" + types(method.getParameterTypes()) + ")");
             }
         }
-        DUE.is("the document's face", due.size(), 41);
+        DUE.is("the constructor and the calls", due.size(), 41);
         same("the face", has, due);
         DUE.is("NONE", OneNet.NONE, -1);
         DUE.is("BAD", OneNet.BAD, -2);
         DUE.is("STATE", OneNet.STATE, -3);
         DUE.is("FULL", OneNet.FULL, -4);
         DUE.is("NO", OneNet.NO, -(1L << 62));
+    }
+
+    private static String withTypesAlone(String head) {
+        return head.replaceAll("(\\w+) \\w+(?=[,)])", "$1");
+    }
+
+    private static Set<String> headsOf(String document) {
+        Set<String> heads = new TreeSet<>();
+        Matcher next = Pattern.compile("^    public (?!static)(.*\\));$", Pattern.MULTILINE).matcher(document);
+        while (next.find()) {
+            heads.add(next.group(1));
+        }
+        return heads;
     }
 
     private static String types(Class<?>[] all) {
